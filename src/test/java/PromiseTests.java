@@ -166,6 +166,10 @@ final class PromiseTests {
             due("takes of kind " + kind + " in year 0", x.takes(0, 0), even[kind]);
             x.year(1);
             due("takes of kind " + kind + " in year 1", x.takes(0, 0), odd[kind]);
+            x.year(1);
+            due("takes of kind " + kind + " in year 2", x.takes(0, 0), even[kind]);
+            x.year(1);
+            due("takes of kind " + kind + " in year 3", x.takes(0, 0), odd[kind]);
             x.sits(0, 0);
             x.year(1);
             due("depth of kind " + kind, x.of(0, 2), 39 - wear[kind]);
@@ -330,6 +334,17 @@ final class PromiseTests {
         fault("chapter;canon 0 1;sits 1 0;", 23);
         fault("chapter;seat 0 0 0;canon 0 1;canon 0 1;sits 0 0;sits 1 0;", 55);
         fault("chapter;seat 0 0 0;canon 0 1;canon 0 1;sits 0 0;sits 1 1;", 55);
+        fault("chapter;seat 0 0 7;seat 0 0 3;canon 0 1;canon 0 1;sits 0 1;sits 1 0;sits 1 1;", 75);
+        fault("xhapter;", 0);
+        fault("chapter;xeat 0 0 0;", 8);
+        fault("chapter;seatz 0 0 0;", 8);
+        fault("chapter;seat`0 0 0;", 12);
+        fault("chapter;seat{0 0 0;", 12);
+        fault("chapter;seat/0 0 0;", 12);
+        fault("chapter;seat:0 0 0;", 12);
+        fault("chapter;seat 0 0 0zz", 18);
+        fault("chapter;seatseat", 8);
+        fault("chapter;1 2 3;", 8);
         fault("chapter;years 0;", 14);
         fault("chapter;years 31;", 14);
         fault("chapter;years 30", 16);
@@ -341,6 +356,10 @@ final class PromiseTests {
         due("seven seats", x.read(), 8);
         tell(x, "chapter;canon0 1;canon0 1;canon0 1;canon0 1;canon0 1;");
         due("five canons", x.read(), 6);
+        tell(x, "chapter;seat5 3 40;canon5 9;canon0 9;canon0 1;sits1 0;sits1 0;");
+        due("the greatest numbers", x.read(), 7);
+        due("about(0, 0)", x.about(0, 0), 5);
+        due("about(1, 2)", x.about(1, 2), 0);
         tell(x, "chapter;years 30;years 1;");
         due("years 30", x.read(), 3);
         due("count(2)", x.count(2), 31);
@@ -639,6 +658,13 @@ final class PromiseTests {
         y.sits(0, 0);
         due("in the 60th year", y.when(0, 0, 60), 60);
         due("a year too late", y.when(0, 0, 61), SeatScene.NONE);
+        SeatScene z = new SeatScene();
+        z.seat(4, 0, 40);
+        z.canon(0, 1);
+        z.sits(0, 0);
+        // 20 in year 0, then 39: 9, then 38: 18
+        due("gilt in an odd year", z.when(0, 0, 30), 3);
+        due("gilt in two years", z.when(0, 0, 29), 2);
     }
 
     private static void first() {
@@ -668,6 +694,22 @@ final class PromiseTests {
         y.canon(0, 1);
         y.sits(0, 0);
         due("ten years on", y.first(1, 1), 10);
+        due("in the 60th year", slow(60).first(0, 1), 60);
+        due("a year too late", slow(61).first(0, 1), SeatScene.NONE);
+    }
+
+    /** One who has taken so much of trait 1, and takes 1 a year of trait 0 from now on. */
+    private static SeatScene slow(int had) {
+        SeatScene x = new SeatScene();
+        x.seat(0, 0, 4);
+        x.seat(0, 1, 4);
+        x.canon(0, 1);
+        x.sits(0, 1);
+        for (int i = 0; i < had; i++) {
+            x.year(1);
+        }
+        x.sits(0, 0);
+        return x;
     }
 
     private static void blank() {
@@ -690,6 +732,17 @@ final class PromiseTests {
         y.canon(0, 3);
         y.sits(0, 0);
         due("behind 37 years", y.blank(0), 37);
+        // gilt: twice as much of a depth below 4 is nothing, too; oak worn by 9: 3 by 2, 1 a year
+        y.seat(4, 0, 3);
+        due("gilt", y.blank(1), 0);
+        SeatScene z = new SeatScene();
+        z.seat(0, 0, 40);
+        z.canon(0, 1);
+        z.canon(0, 3);
+        z.sits(1, 0);
+        z.year(1);
+        z.swap(0, 1);
+        due("worn by none", z.blank(0), SeatScene.NONE);
     }
 
     private static void place() {
@@ -768,11 +821,60 @@ final class PromiseTests {
         due("seating(1, NONE)", x.seating(1, SeatScene.NONE), 0);
         due("seating(2, NONE)", x.seating(2, SeatScene.NONE), 1);
         due("seating(2, 0)", x.seating(2, 0), 2);
+        seatingOfMany();
         due("seating(13, NONE)", x.seating(13, SeatScene.NONE), -10);
         due("seating(-1, NONE)", x.seating(-1, SeatScene.NONE), -10);
         due("seating(1, 2)", x.seating(1, 2), -10);
         due("seating(1, -2)", x.seating(1, -2), -10);
         due("status(0)", x.status(0), 4);
+    }
+
+    private static void seatingOfMany() {
+        SeatScene x = new SeatScene();
+        x.seat(0, 0, 0);
+        x.seat(4, 1, 40);
+        x.seat(0, 2, 40);
+        for (int i = 0; i < 5; i++) {
+            x.canon(0, 1);
+        }
+        // all on one gilt seat: 20, then 9
+        x.wish(0, 1, 29);
+        x.wish(1, 1, 30);
+        x.wish(2, 1, 20);
+        due("in one year", x.seating(1, SeatScene.NONE), 1);
+        due("the third alone", x.seating(1, 2), 1);
+        due("in two years", x.seating(2, SeatScene.NONE), 1);
+        due("the third, for he comes last", x.seating(2, 2), 1);
+        due("the first on none", x.seating(2, 0), SeatScene.NONE);
+        x.wish(0, 2, 10);
+        x.wish(2, 2, 19);
+        x.wish(3, 1, 1);
+        due("two of six", x.seating(2, SeatScene.NONE), 2);
+        int[] way = {-1, -1, 2, 1, -1};
+        for (int c = 0; c < 5; c++) {
+            due("seating(2, " + c + ")", x.seating(2, c), way[c]);
+        }
+        x.forget(0);
+        for (int c = 2; c < 5; c++) {
+            x.wish(c, 1, 1);
+            x.wish(c, 2, 1);
+        }
+        due("the later ones", x.seating(1, SeatScene.NONE), 2);
+        due("the fourth", x.seating(1, 3), 1);
+        due("the fifth", x.seating(1, 4), 2);
+        // fewer canons behind more of them
+        x.chapter();
+        x.seat(0, 0, 40);
+        x.seat(0, 0, 40);
+        x.canon(0, 1);
+        x.canon(0, 1);
+        x.wish(0, 0, 1);
+        x.wish(1, 0, 1);
+        due("two seats for two", x.seating(1, SeatScene.NONE), 2);
+        due("the first of two ways", x.seating(1, 0), 0);
+        due("the second", x.seating(1, 1), 1);
+        x.forget(0);
+        due("no wishes: on none", x.seating(1, 1), SeatScene.NONE);
     }
 
     private static SeatScene traits(int... traits) {
@@ -994,6 +1096,7 @@ final class PromiseTests {
     private static void two() {
         Check.promise("promise 35, two");
         SeatScene x = pair();
+        twoOfUnlikeSeats();
         // both would take 10, 10, 2
         due("two(0, 1, NONE)", x.two(0, 1, SeatScene.NONE), 2);
         due("two(0, 1, 0)", x.two(0, 1, 0), 1);
@@ -1015,6 +1118,32 @@ final class PromiseTests {
         // on (0, 0) neither gets more on seat 1; on (0, 1) and (1, 0) neither; on (1, 1) both
         due("a blank one", y.two(0, 1, SeatScene.NONE), 3);
         due("the last", y.two(0, 1, 2), 7);
+    }
+
+    private static void twoOfUnlikeSeats() {
+        SeatScene x = new SeatScene();
+        x.seat(0, 0, 40);
+        x.seat(0, 0, 4);
+        x.seat(0, 1, 36);
+        x.canon(0, 1);
+        x.canon(3, 1);
+        x.canon(1, 1);
+        // the first would take 10, 1, 9, the deacon nothing anywhere, the dean 5, 0, 4
+        due("the deacon rests anywhere", x.two(0, 1, SeatScene.NONE), 3);
+        due("he on 2, the deacon on 0", x.two(0, 1, 2), 14);
+        due("he on 0, the deacon on 1", x.two(0, 1, 0), 1);
+        due("the deacon first", x.two(1, 0, 0), 2);
+        due("first and dean", x.two(0, 2, SeatScene.NONE), 2);
+        due("first and dean, 0 and 2", x.two(0, 2, 0), 2);
+        due("first and dean, 2 and 0", x.two(0, 2, 1), 14);
+        x = new SeatScene();
+        x.seat(0, 0, 40);
+        x.seat(0, 0, 4);
+        x.canon(0, 1);
+        x.canon(0, 1);
+        due("ten or one", x.two(0, 1, SeatScene.NONE), 2);
+        due("not both on ten", x.two(0, 1, 0), 1);
+        due("not both on one", x.two(0, 1, 1), 7);
     }
 
     private static void fraction(SeatScene x, int k, int m, int c, long above, long below) {
@@ -1076,11 +1205,24 @@ final class PromiseTests {
             due("years(" + seed * 7919 + ", 9)", y.years(seed * 7919, 9), want);
             apart |= 1L << want;
         }
+        SeatScene z = new SeatScene();
+        z.seat(5, 0, 40);
+        for (int canons = 1; canons <= 3; canons++) {
+            z.canon(0, 1);
+            z.sits(0, 0);
+            for (int seed = 0; seed < 40; seed++) {
+                due("of " + canons + " years(" + seed + ", 20)", z.years(seed, 20), doersOf(canons, seed, 20));
+            }
+        }
         Check.holds("the seeds tell more than one story", Long.bitCount(apart) > 1);
     }
 
     /** How many of five have sat on the hands of depth 40 (ten a year), the first at first. */
     private static int doers(long seed, int n) {
+        return doersOf(5, seed, n);
+    }
+
+    private static int doersOf(int canons, long seed, int n) {
         java.math.BigInteger x = java.math.BigInteger.valueOf(seed);
         int sits = 0;
         int have = 0;
@@ -1089,7 +1231,8 @@ final class PromiseTests {
                     .mod(java.math.BigInteger.valueOf(2147483648L));
             int a = x.divide(java.math.BigInteger.valueOf(65536)).mod(java.math.BigInteger.valueOf(5)).intValue();
             int b = x.divide(java.math.BigInteger.valueOf(1048576)).mod(java.math.BigInteger.valueOf(5)).intValue();
-            sits = sits == a ? b : sits == b ? a : sits;
+            boolean both = a < canons && b < canons;
+            sits = both && sits == a ? b : both && sits == b ? a : sits;
             have |= 1 << sits;
         }
         return Integer.bitCount(have);
@@ -1150,11 +1293,59 @@ final class PromiseTests {
         due("count(9)", x.count(9), 2);
         due("from(0) again", x.from(0), 1);
         due("digest()", x.digest(), then);
+        fromAnother();
         x.type(9);
         x.left(1, 1, 4);
         x.from(0);
         due("the text stays", x.count(10), 1);
         due("the fraction stays", x.part(0), 21);
+    }
+
+    /** An image comes back whole, whatever stood in its place: kinds, rows, and what may be undone. */
+    private static void fromAnother() {
+        SeatScene x = new SeatScene();
+        for (int i = 0; i < 7; i++) {
+            x.seat(5 - i % 6, 3 - i % 4, 40 - i);
+        }
+        for (int i = 0; i < 5; i++) {
+            x.canon(5 - i, 9 - i);
+        }
+        for (int i = 0; i < 6; i++) {
+            x.wish(i % 5, 1, i + 1);
+            x.note(i, 2, 3, 4, i + 2);
+            x.mark(i % 5, 6, 7, i + 3);
+        }
+        for (int i = 0; i < 4; i++) {
+            x.sits(i, i + 2);
+            x.year(2);
+        }
+        x.image(1);
+        long[] past = new long[9];
+        for (int i = 0; i < 9; i++) {
+            past[i] = x.digest();
+            x.undo();
+        }
+        x.chapter();
+        for (int i = 0; i < 7; i++) {
+            x.seat(0, 0, 1);
+        }
+        for (int i = 0; i < 5; i++) {
+            x.canon(0, 1);
+        }
+        for (int i = 0; i < 6; i++) {
+            x.wish(0, 0, 0);
+            x.note(0, 0, 0, 0, 0);
+            x.mark(0, 0, 0, 0);
+        }
+        for (int i = 0; i < 8; i++) {
+            x.year(1);
+        }
+        x.from(1);
+        due("heaviness", x.about(0, 4), 10);
+        for (int i = 0; i < 9; i++) {
+            due("digest() behind " + i + " undone", x.digest(), past[i]);
+            x.undo();
+        }
     }
 
     private static void status() {
@@ -1204,18 +1395,20 @@ final class PromiseTests {
     private static void digest() {
         Check.promise("promise 43, digest");
         SeatScene x = pair();
+        x.canon(2, 5);
+        x.sits(0, 0);
         x.wish(1, 2, 3);
         x.note(1, 2, 3, 4, 5);
         x.mark(1, 6, 7, 8);
-        x.left(1, 1, 4);
+        x.left(2, 1, 5);
         x.year(1);
         x.sits(1, SeatScene.NONE);
         x.type(9);
         x.year(0);
-        long[] values = {3, 2, 1, 1, 37 + 19 + 8, 20, 1, 1, 1, 4, 1,
+        long[] values = {3, 3, 1, 1, 37 + 19 + 8, 20, 1, 1, 1, 3, 1,
             0, 1, 37, 2, 2, 19, 0, 3, 8,
-            0, 9, 0, 0, 10, 0, 0, 0, 3, -1, 0, 0, 10, 0,
-            1, 2, 3, 1, 2, 3, 4, 5, 1, 6, 7, 8, 21, 25};
+            0, 9, 0, 0, 10, 0, 0, 0, 3, -1, 0, 0, 10, 0, 2, 5, -1, 0, 0, 0, 0,
+            1, 2, 3, 1, 2, 3, 4, 5, 1, 6, 7, 8, 1, 2};
         long h = 1499;
         for (long v : values) {
             h = 31 * h + v;
