@@ -830,6 +830,16 @@ final class PromiseTests {
     }
 
     private static void seatingOfMany() {
+        SeatScene y = new SeatScene();
+        for (int i = 0; i < 5; i++) {
+            y.seat(0, i % 4, i == 4 ? 40 : 20);
+            y.canon(0, 1);
+            y.wish(i, i % 4, i == 4 ? 10 : 5);
+        }
+        due("to each his own", y.seating(1, SeatScene.NONE), 5);
+        for (int i = 0; i < 5; i++) {
+            due("seating(1, " + i + ")", y.seating(1, i), i);
+        }
         SeatScene x = new SeatScene();
         x.seat(0, 0, 0);
         x.seat(4, 1, 40);
@@ -846,6 +856,13 @@ final class PromiseTests {
         due("in two years", x.seating(2, SeatScene.NONE), 1);
         due("the third, for he comes last", x.seating(2, 2), 1);
         due("the first on none", x.seating(2, 0), SeatScene.NONE);
+        x.forget(0);
+        x.wish(0, 1, 30);
+        due("half in the odd year", x.seating(2, SeatScene.NONE), 0);
+        x.forget(0);
+        x.wish(0, 1, 29);
+        x.wish(1, 1, 30);
+        x.wish(2, 1, 20);
         x.wish(0, 2, 10);
         x.wish(2, 2, 19);
         x.wish(3, 1, 1);
@@ -1204,6 +1221,9 @@ final class PromiseTests {
             int want = doers(seed * 7919, 9);
             due("years(" + seed * 7919 + ", 9)", y.years(seed * 7919, 9), want);
             apart |= 1L << want;
+        }
+        for (int seed = 0; seed < 3000; seed++) {
+            due("years(" + seed * 333 + ", 8)", y.years(seed * 333, 8), doers(seed * 333, 8));
         }
         SeatScene z = new SeatScene();
         z.seat(5, 0, 40);
