@@ -25,7 +25,9 @@ final class ChapterEdges {
         p07Prefixes();
         p07Bytes();
         p07Places();
+        p07Letters();
         p07Length();
+        p07Behind();
         p07Takes();
         p07Fault();
         Check.close("ChapterEdges");
@@ -544,6 +546,30 @@ final class ChapterEdges {
         faults("chapter ; years 0 ;", 16);
     }
 
+    /** A word with another letter in one place, with one too few, with one too many. */
+    private static void p07Letters() {
+        Check.promise("promise 7, words");
+        String[] words = {"chapter", "seat", "canon", "sits", "years"};
+        String[] items = {";", " 0 0 0;", " 0 1;", " 0 0;", " 1;"};
+        for (int w = 0; w < words.length; w++) {
+            String word = words[w];
+            String ahead = w == 0 ? "" : "chapter;seat 0 0 0;canon 0 1;";
+            reads(ahead + word + items[w], w == 0 ? 1 : 4);
+            for (int i = 0; i < word.length(); i++) {
+                for (String letter : new String[] {"", "x", "a", "z", word.charAt(i) + "e"}) {
+                    String wrong = word.substring(0, i) + letter + word.substring(i + 1);
+                    if (!wrong.equals(word)) {
+                        faults(ahead + wrong + items[w], ahead.length());
+                    }
+                }
+            }
+            faults(ahead + "x" + word + items[w], ahead.length());
+            faults(ahead + word + "s" + items[w], ahead.length());
+            faults(ahead + word + word + items[w], ahead.length());
+            faults(ahead + word.toUpperCase() + items[w], ahead.length());
+        }
+    }
+
     private static void p07Length() {
         Check.promise("promise 7, the length of a text");
         reads(Edges.FULL_TEXT, 15);
@@ -554,6 +580,37 @@ final class ChapterEdges {
         faults(" ".repeat(143) + "chapter", 150);
         reads(" ".repeat(142) + "chapter;", 1);
         faults(" ".repeat(149) + "c", 149);
+        // 150 bytes that end within an item
+        faults(" ".repeat(135) + "chapter;years 5", 150);
+        faults(" ".repeat(134) + "chapter;years 30", 150);
+        faults(" ".repeat(133) + "chapter;years 305", 147);
+        faults(" ".repeat(137) + "chapter;years", 150);
+        faults(" ".repeat(138) + "chapter;year", 146);
+        faults(" ".repeat(149) + "5", 149);
+        faults(" ".repeat(149) + ";", 149);
+        faults(" ".repeat(141) + "chapter;A", 149);
+    }
+
+    /** Bytes of an older, longer text behind the end of this one are none of it. */
+    private static void p07Behind() {
+        Check.promise("promise 7, behind the text's end");
+        String[] ends = {"chapter;years 5", "chapter;years", "chapter", "chapter;years 1", "chapter;years 5;sit",
+            "chapter;", "chapter;y", "chapter;seat 0 0 0;canon 5 ", ""};
+        int[] due = {-10 - 15, -10 - 13, -10 - 7, -10 - 15, -10 - 16, 1, -10 - 8, -10 - 27, -10};
+        for (int i = 0; i < ends.length; i++) {
+            for (String old : new String[] {"5", ";", "s", " ", "99", "A"}) {
+                SeatScene x = new SeatScene();
+                Edges.tell(x, (ends[i] + old.repeat(150)).substring(0, 150));
+                Edges.tell(x, ends[i]);
+                due("read() of '" + ends[i] + "' over '" + old + "'", x.read(), due[i]);
+            }
+        }
+        SeatScene x = new SeatScene();
+        Edges.tell(x, "chapter;years 5;");
+        Edges.tell(x, "chapter;years 05");
+        x.type(';');
+        due("read() of 05", x.read(), 2);
+        due("the year", x.count(2), 5);
     }
 
     /** What is read takes the place of all but the images, the text, the fraction and STATUS. */
@@ -597,7 +654,38 @@ final class ChapterEdges {
         for (int i = 0; i <= 9; i++) {
             due("count(" + i + ") of nothing", x.count(i), 0);
         }
+        readsNumbers();
         readsInOrder();
+    }
+
+    /** Each number that is read comes to its place. */
+    private static void readsNumbers() {
+        SeatScene x = new SeatScene();
+        int[][] seats = {{5, 3, 40}, {0, 1, 2}, {3, 2, 17}, {4, 0, 0}, {1, 3, 8}, {2, 2, 39}, {5, 0, 1}};
+        int[][] canons = {{5, 1}, {0, 9}, {3, 7}, {4, 2}, {1, 6}};
+        StringBuilder text = new StringBuilder("chapter;");
+        for (int[] s : seats) {
+            text.append("seat").append(s[0]).append(' ').append(s[1]).append(' ').append(s[2]).append(';');
+        }
+        for (int[] c : canons) {
+            text.append("canon").append(c[0]).append(' ').append(c[1]).append(';');
+        }
+        text.append("sits4 6;");
+        Edges.tell(x, text.toString());
+        due("read()", x.read(), 14);
+        for (int s = 0; s < 7; s++) {
+            for (int what = 0; what < 3; what++) {
+                due("of(" + s + ", " + what + ")", x.of(s, what), seats[s][what]);
+            }
+            due("of(" + s + ", 3)", x.of(s, 3), s == 6 ? 4 : SeatScene.NONE);
+        }
+        int[] heavy = {2, 9, 14, 1, 6};
+        for (int c = 0; c < 5; c++) {
+            due("about(" + c + ", 0)", x.about(c, 0), canons[c][0]);
+            due("about(" + c + ", 1)", x.about(c, 1), canons[c][1]);
+            due("about(" + c + ", 2)", x.about(c, 2), c == 4 ? 6 : SeatScene.NONE);
+            due("about(" + c + ", 4)", x.about(c, 4), heavy[c]);
+        }
     }
 
     /** Items do what the calls of their names do, one behind the other. */

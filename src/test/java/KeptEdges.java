@@ -14,6 +14,7 @@ final class KeptEdges {
         p38Part();
         p39Image();
         p39Apart();
+        p39Rows();
         p40From();
         p40Whole();
         p40GoesOn();
@@ -107,6 +108,34 @@ final class KeptEdges {
         due("image 0 is not as image 1 now", x.digest(), early);
         due("which it holds", x.from(1), 1);
         due("a year on", x.count(2), 7);
+    }
+
+    /** Six wishes, notes and marks come back, over six others. */
+    private static void p39Rows() {
+        Check.promise("promise 39, six of each");
+        SeatScene x = Edges.full();
+        long before = x.digest();
+        for (int what = 0; what < 3; what++) {
+            x.forget(what);
+        }
+        for (int i = 0; i < 6; i++) {
+            x.wish(4 - i % 5, 3 - i % 4, 90 + i);
+            x.note(6 - i, 30 + i, 80 + i, 90 + i, 20 + i);
+            x.mark(4 - i % 5, 30 + i, 90 + i, 50 + i);
+        }
+        long other = x.digest();
+        x.image(1);
+        x.from(0);
+        due("image 0", x.digest(), before);
+        x.from(1);
+        due("image 1", x.digest(), other);
+        x.from(0);
+        due("image 0 again", x.digest(), before);
+        x.from(1);
+        due("what the sixth note leaves", x.is(1), 0);
+        x.forget(1);
+        due("the notes of image 0", x.from(0), 1);
+        due("what they leave of seat 0", x.is(0), 1 + 2 + 32);
     }
 
     // ---- promise 40

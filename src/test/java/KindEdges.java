@@ -34,6 +34,7 @@ final class KindEdges {
         p37Years();
         p37Seeds();
         p37Ahead();
+        p37Cut();
         Check.close("KindEdges");
     }
 
@@ -612,5 +613,29 @@ final class KindEdges {
             changed += his ? 1 : 0;
         }
         Check.holds("some change, some do not", changed > 0 && changed < 400);
+    }
+
+    /** Seeds by which X lies just at, below or above a multiple of 1048576, of 65536, of 2147483648. */
+    private static final int[] CUT = {501379, 899870, 102888, 42627, 108163, 173699, 239235, 304771, 47902, 113438, 178974,
+        244510, 388515, 984577, 51463, 647525, 518020, 0, 1, 2, 999999};
+
+    /** One year: of five, one who takes sits alone among deacons; he takes unless he is one of the two who change. */
+    private static void p37Cut() {
+        Check.promise("promise 37, what is cut and left over");
+        for (int seed : CUT) {
+            BigInteger[] next = BigInteger.valueOf(seed).multiply(BigInteger.valueOf(1103515245))
+                    .add(BigInteger.valueOf(12345)).divideAndRemainder(BigInteger.valueOf(2147483648L));
+            int a = next[1].divide(BigInteger.valueOf(65536)).mod(BigInteger.valueOf(5)).intValue();
+            int b = next[1].divide(BigInteger.valueOf(1048576)).mod(BigInteger.valueOf(5)).intValue();
+            for (int he = 0; he < 5; he++) {
+                SeatScene x = new SeatScene();
+                x.seat(0, 0, 40);
+                for (int c = 0; c < 5; c++) {
+                    x.canon(c == he ? 0 : 3, 1);
+                }
+                x.sits(he, 0);
+                due("years(" + seed + ", 1) of " + he, x.years(seed, 1), a != b && (a == he || b == he) ? 0 : 1);
+            }
+        }
     }
 }
