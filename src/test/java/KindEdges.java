@@ -478,21 +478,17 @@ final class KindEdges {
     private static void p36All() {
         Check.promise("promise 36, all");
         for (int canons = 0; canons <= 5; canons++) {
-            SeatScene x = new SeatScene();
-            for (int i = 0; i < canons; i++) {
-                x.canon(i, 9);
-            }
             for (int m = 0; m <= 3; m++) {
                 for (int c = 0; c <= 10; c++) {
-                    SeatScene y = new SeatScene();
+                    SeatScene x = new SeatScene();
                     for (int i = 0; i < canons; i++) {
-                        y.canon(i, 9);
+                        x.canon(i, 9);
                     }
                     for (int k = 0; k <= 5; k++) {
                         BigInteger top = waysLeft(canons, k, BigInteger.valueOf(10 - c).pow(m), BigInteger.TEN.pow(m));
                         BigInteger bottom = BigInteger.TEN.pow(m * canons);
                         BigInteger common = top.gcd(bottom);
-                        fraction(y, k, m, c, top.divide(common).longValue(), bottom.divide(common).longValue());
+                        fraction(x, k, m, c, top.divide(common).longValue(), bottom.divide(common).longValue());
                     }
                 }
             }
